@@ -1391,7 +1391,6 @@ public final class OneTwoOneTwo {
 
         /** How many statements came to the yard, or FAULT_FROM less the fault. */
         int readOnto(Yard yard) {
-            start = 0;
             end = 0;
             for (int statements = 1; statements <= MAX_TAPE; statements++) {
                 if (!readStatement(yard)) {

@@ -227,6 +227,14 @@ public final class PromisesTest {
         DUE.is("8 slip at 3 of four", x.says(3, 3), 1);
         DUE.is("8 jump of four", x.says(2, 2), 2);
         DUE.is("8 back of four", x.says(1, 1), 0);
+        OneTwoOneTwo one = yardOf(1, 0);
+        one.count(4, 5, 0);
+        one.show(0, 0);
+        DUE.is("8 turned of one", one.says(0, 4), 4);
+        DUE.is("8 turned of one, taken for back", one.says(0, 1), 4);
+        one.count(1, 5, 0);
+        one.show(0, 1);
+        DUE.is("8 back of one", one.says(0, 1), 0);
         DUE.is("8 kind 6", x.says(0, 6), BAD);
         DUE.is("8 kind -1", x.says(0, -1), BAD);
         DUE.is("8 s 8", x.says(8, 0), BAD);
@@ -527,6 +535,13 @@ public final class PromisesTest {
         DUE.is("25 count -1", x.unlike(-1, 0), BAD);
         x.content();
         DUE.is("26 none", x.unmet(0), -1);
+        x.wish(0, 1, true, 1);
+        DUE.is("26 the first of all", x.unmet(0), 0);
+        x.wish(0, 2, true, 2);
+        x.wish(0, 3, true, 3);
+        DUE.is("26 not what is met", x.unmet(0), 1);
+        x.child(1, 0);
+        DUE.is("25 all but two", x.unlike(0, 1), 6);
         turnedAbout();
         heaviestOfSeveral();
     }
@@ -612,6 +627,10 @@ public final class PromisesTest {
         x.wish(0, 2, false, 1);
         DUE.is("29 conflict, the first", x.conflict(), 6);
         x.content();
+        x.wish(4, 3, false, 1);
+        x.wish(3, 4, true, 1);
+        DUE.is("29 the first of all", x.conflict(), 0);
+        x.content();
         DUE.is("28 groups again", x.groups(), 7);
     }
 
@@ -671,6 +690,8 @@ public final class PromisesTest {
         x.count(0, 5, 0);
         x.wish(4, 1, false, 40);
         DUE.is("31 by all counts together", x.place(4), 2);
+        DUE.is("31 another", x.place(2), 2);
+        stands(x, "31 it stays where it is", 0, 1, 2, 3, 4);
         DUE.is("31 child 5", x.place(5), BAD);
         DUE.is("31 child -1", x.place(-1), BAD);
         stands(x, "31 nothing is changed", 0, 1, 2, 3, 4);
@@ -679,6 +700,7 @@ public final class PromisesTest {
         DUE.is("37 they are", y.far(0, 0, 4), 0);
         DUE.is("37 one place", y.far(0, 0, 5), 1);
         DUE.is("37 back to it", y.far(0, 0, 3), 1);
+        DUE.is("37 to the first place", y.far(0, 1, 4), 1);
         DUE.is("37 neighbours", y.far(0, 0, 1), 3);
         DUE.is("37 either one", y.far(0, 1, 0), 3);
         DUE.is("37 two places", y.far(0, 1, 7), 2);
@@ -777,6 +799,7 @@ public final class PromisesTest {
             DUE.is("42 by 7", x.out(7, i), bySeven[i]);
             DUE.is("42 by 1", x.out(1, i), i);
         }
+        DUE.is("43 by 3, asked first", yardOf(5, 0).outAt(3, 4), 2);
         DUE.is("44 the last by 1", x.stays(4), 1);
         DUE.is("44 by 2", x.stays(2), 2);
         DUE.is("44 by 3", x.stays(3), 3);
@@ -821,6 +844,10 @@ public final class PromisesTest {
         DUE.is("47 none", x.miscounted(0), 0);
         DUE.is("46 of one team", x.moved(0, 0), 2);
         DUE.is("46 by back", x.moved(1, 0), -1);
+        tell(x, 0, 1, 0, 1, 0);
+        DUE.is("47 none by another", x.miscounted(0), 0);
+        tell(x, 0, 0, 0, 1, 1);
+        DUE.is("47 none by jump", x.miscounted(0), 0);
         tell(x, 0, 1, 1, 0, 0);
         DUE.is("46 moved", x.moved(0, 0), 3);
         DUE.is("45 none", x.fits(0), 0);
@@ -969,6 +996,7 @@ public final class PromisesTest {
         DUE.is("54 leaves", x.leaves(), 3);
         stands(x, "54", 0, 1, 2);
         DUE.is("54 wishes left", x.status(2), 2);
+        DUE.is("54 the other first", x.wishOf(0, 0), 0);
         DUE.is("54 first left", x.wishOf(0, 3), 2);
         DUE.is("54 its kind", x.wishOf(0, 2), 0);
         DUE.is("54 second left", x.wishOf(1, 3), 4);
@@ -1092,7 +1120,14 @@ public final class PromisesTest {
         DUE.is("59 shelves", x.status(7), 2);
         x.leaves();
         x.leaves();
+        for (int i = 1; i < 6; i++) {
+            x.count(0, 2, 0);
+        }
+        x.show(0, 5);
+        x.show(7, 1);
         DUE.is("58 once more", x.back(), 1);
+        DUE.is("58 gone from the first shelf", x.holds(0), -1);
+        DUE.is("58 gone from the last shelf", x.holds(7), -1);
         stands(x, "58 once more", 0, 1);
         x.leaves();
         DUE.is("57 anew", x.image(), 1);
