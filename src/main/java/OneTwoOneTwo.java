@@ -863,7 +863,7 @@ public final class OneTwoOneTwo {
 
         // ---- the row
 
-        void stand(int child, int p) {
+        private void stand(int child, int p) {
             where[child] = p;
             who[p] = child;
         }
@@ -1075,19 +1075,19 @@ public final class OneTwoOneTwo {
             yard = looked;
         }
 
-        void takeSides(int count) {
+        private void takeSides(int count) {
             for (int c = 0; c < yard.children; c++) {
                 sides[c] = yard.sideOf(count, c);
             }
         }
 
-        void exchangeSides(int child, int other) {
+        private void exchangeSides(int child, int other) {
             int side = sides[child];
             sides[child] = sides[other];
             sides[other] = side;
         }
 
-        int valueOfSides() {
+        private int valueOfSides() {
             int sum = 0;
             for (int i = 0; i < yard.wishes; i++) {
                 boolean asOne = sides[yard.firsts[i]] == sides[yard.seconds[i]];
@@ -1098,7 +1098,7 @@ public final class OneTwoOneTwo {
             return sum;
         }
 
-        int valueWithChange(int child, int other) {
+        private int valueWithChange(int child, int other) {
             exchangeSides(child, other);
             int found = valueOfSides();
             exchangeSides(child, other);
@@ -1136,7 +1136,7 @@ public final class OneTwoOneTwo {
         }
 
         /** Tries the twos from (from, with) on; two of one team would change nothing. */
-        boolean oneChangeReaches(int v, int from, int with) {
+        private boolean oneChangeReaches(int v, int from, int with) {
             for (int a = from; a < yard.children; a++) {
                 for (int b = a == from ? with : a + 1; b < yard.children; b++) {
                     if (sides[a] != sides[b] && valueWithChange(a, b) >= v) {
@@ -1151,7 +1151,7 @@ public final class OneTwoOneTwo {
          * The second two come behind the first in their order: twos without a child in common
          * may be changed in either order, and both ways round of three children come up so.
          */
-        boolean twoChangesReach(int v) {
+        private boolean twoChangesReach(int v) {
             for (int a = 0; a < yard.children; a++) {
                 for (int b = a + 1; b < yard.children; b++) {
                     if (sides[a] != sides[b]) {
@@ -1222,7 +1222,7 @@ public final class OneTwoOneTwo {
             return Math.min(one, two);
         }
 
-        int shortestMoveOf(int count, int mover, int other) {
+        private int shortestMoveOf(int count, int mover, int other) {
             int home = yard.where[mover];
             int least = NONE;
             for (int p = 0; p < yard.children; p++) {
@@ -1248,7 +1248,7 @@ public final class OneTwoOneTwo {
             return greatestFrom(0);
         }
 
-        int greatestFrom(int child) {
+        private int greatestFrom(int child) {
             if (child >= yard.children || child >= MAX_CHILDREN_FOR_MOST) {
                 return valueOfSides();
             }
@@ -1265,7 +1265,7 @@ public final class OneTwoOneTwo {
         }
 
         /** Of several empty teams of one size it doesn't matter which one is begun. */
-        boolean isLikeOneAhead(int side) {
+        private boolean isLikeOneAhead(int side) {
             for (int ahead = 0; ahead < side; ahead++) {
                 if (taken[side] == 0 && taken[ahead] == 0 && room[ahead] == room[side]) {
                     return true;
@@ -1407,7 +1407,7 @@ public final class OneTwoOneTwo {
             return FAULT_FROM - size;
         }
 
-        void nextToken() {
+        private void nextToken() {
             start = end;
             while (start < size && bytes[start] == ' ') {
                 start++;
@@ -1423,7 +1423,7 @@ public final class OneTwoOneTwo {
             }
         }
 
-        static int tokenOf(int letter) {
+        private static int tokenOf(int letter) {
             if (letter >= 'a' && letter <= 'z') {
                 return WORD;
             }
@@ -1433,7 +1433,7 @@ public final class OneTwoOneTwo {
             return letter == ';' ? SIGN : STRANGE;
         }
 
-        boolean isWord(String word) {
+        private boolean isWord(String word) {
             if (token != WORD || end - start != word.length()) {
                 return false;
             }
@@ -1446,7 +1446,7 @@ public final class OneTwoOneTwo {
         }
 
         /** The number that is next, or NONE if none of least to greatest is. */
-        int nextNumber(int least, int greatest) {
+        private int nextNumber(int least, int greatest) {
             nextToken();
             if (token != NUMBER || end - start > MAX_DIGITS) {
                 return NONE;
@@ -1458,7 +1458,7 @@ public final class OneTwoOneTwo {
             return within(number, least, greatest) ? number : NONE;
         }
 
-        boolean readStatement(Yard yard) {
+        private boolean readStatement(Yard yard) {
             nextToken();
             if (isWord("child")) {
                 return yard.children < MAX_CHILDREN && readChild(yard);
@@ -1478,7 +1478,7 @@ public final class OneTwoOneTwo {
             return isWord("move") && readMove(yard);
         }
 
-        boolean readChild(Yard yard) {
+        private boolean readChild(Yard yard) {
             int strong = nextNumber(1, MAX_STRONG);
             if (strong == NONE) {
                 return false;
@@ -1491,7 +1491,7 @@ public final class OneTwoOneTwo {
             return true;
         }
 
-        boolean readCount(Yard yard) {
+        private boolean readCount(Yard yard) {
             int kind = nextNumber(COUNT, LATE);
             if (kind == NONE) {
                 return false;
@@ -1508,7 +1508,7 @@ public final class OneTwoOneTwo {
             return true;
         }
 
-        boolean readWish(Yard yard, boolean asOne) {
+        private boolean readWish(Yard yard, boolean asOne) {
             int first = nextNumber(0, yard.children - 1);
             if (first == NONE) {
                 return false;
@@ -1525,7 +1525,7 @@ public final class OneTwoOneTwo {
             return true;
         }
 
-        boolean readSwap(Yard yard) {
+        private boolean readSwap(Yard yard) {
             int first = nextNumber(0, yard.children - 1);
             if (first == NONE) {
                 return false;
@@ -1538,7 +1538,7 @@ public final class OneTwoOneTwo {
             return true;
         }
 
-        boolean readMove(Yard yard) {
+        private boolean readMove(Yard yard) {
             int mover = nextNumber(0, yard.children - 1);
             if (mover == NONE) {
                 return false;
