@@ -18,18 +18,25 @@ abstract class Boundary {
     private static final int REFUSALS = 5;
     private static int asked = 0;
     private static int wrong = 0;
-    private static int failed = 0;
 
     /** Runs every test of the class and ends the program with 1 if one failed. */
     static void run(Class<?> tests) {
-        List<Method> all = sentencesOf(tests);
-        for (Method test : all) {
-            runOne(test);
-        }
-        System.out.println(all.size() + " sentences, " + failed + " do not hold");
+        int failed = failuresOf(tests).size();
+        System.out.println(sentencesOf(tests).size() + " sentences, " + failed + " do not hold");
         if (failed != 0) {
             System.exit(1);
         }
+    }
+
+    /** Runs every test of the class; tells and answers the names of those that failed. */
+    static List<String> failuresOf(Class<?> tests) {
+        List<String> failed = new ArrayList<>();
+        for (Method test : sentencesOf(tests)) {
+            if (!holds(test)) {
+                failed.add(test.getName());
+            }
+        }
+        return failed;
     }
 
     static List<Method> sentencesOf(Class<?> tests) {
@@ -43,7 +50,7 @@ abstract class Boundary {
         return found;
     }
 
-    private static void runOne(Method test) {
+    private static boolean holds(Method test) {
         asked = 0;
         wrong = 0;
         try {
@@ -58,11 +65,11 @@ abstract class Boundary {
             complain("asked nothing");
         }
         if (wrong != 0) {
-            failed++;
             Sentence sentence = test.getAnnotation(Sentence.class);
             System.out.println("FAILED " + test.getDeclaringClass().getName() + "." + test.getName() + ": "
                 + sentence.of() + ", \"" + sentence.says() + "\"");
         }
+        return wrong == 0;
     }
 
     private static void complain(String what) {
@@ -71,8 +78,8 @@ abstract class Boundary {
     }
 
     private static int lineOfTest() {
-        return StackWalker.getInstance().walk(frames -> frames
-            .filter(f -> f.getClassName().endsWith("Test")).findFirst().map(StackWalker.StackFrame::getLineNumber).orElse(0));
+        return StackWalker.getInstance().walk(frames -> frames.filter(f -> f.getClassName().endsWith("Test"))
+            .findFirst().map(StackWalker.StackFrame::getLineNumber).orElse(0));
     }
 
     // ---- what a test asks
@@ -94,7 +101,8 @@ abstract class Boundary {
         answersAndCounts(want, 0, made, call);
     }
 
-    private static void answersAndCounts(long want, int code, Supplier<OneTwoOneTwo> made, ToLongFunction<OneTwoOneTwo> call) {
+    private static void answersAndCounts(long want, int code, Supplier<OneTwoOneTwo> made,
+            ToLongFunction<OneTwoOneTwo> call) {
         OneTwoOneTwo x = made.get();
         due(call.applyAsLong(x), want);
         List<Long> ahead = allOf(made.get());
@@ -218,8 +226,8 @@ abstract class Boundary {
 
     /**
      * Something of everything. CHILDREN 0 to 4, who stand 0, 4, 1, 2, 3; COUNTS 0 to 2; WISHES 0 to 2;
-     * SHELVES: 0 a ROW of 6 longs (two changes, then WRONG), 1 COUNT 1, 2 a ROW of 3 bytes, 3 a ROW of 5 ints, the others NOTHING;
-     * a TAPE that is a YARD; an image of two children.
+     * SHELVES: 0 a ROW of 6 longs (two changes, then WRONG), 1 COUNT 1, 2 a ROW of 3 bytes, 3 a ROW of 5 ints,
+     * the others NOTHING; a TAPE that is a YARD; an image of two children.
      */
     static OneTwoOneTwo some() {
         OneTwoOneTwo x = new OneTwoOneTwo();

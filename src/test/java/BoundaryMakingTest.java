@@ -264,6 +264,9 @@ public final class BoundaryMakingTest extends Boundary {
             }
         }
         answers(0, () -> children(1, 9), y -> y.childOf(0, 3));
+        answers(2, Boundary::some, y -> y.childOf(0, 3));
+        answers(1, Boundary::some, y -> y.childOf(1, 3));
+        answers(1, Boundary::some, y -> y.childOf(4, 3));
     }
 
     @Sentence(of = "Promise 16", says = "BAD.")

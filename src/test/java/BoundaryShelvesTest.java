@@ -144,7 +144,8 @@ public final class BoundaryShelvesTest extends Boundary {
         }
     }
 
-    @Sentence(of = "Promise 4", says = "n elements of the ROW in SHELF p from place i on come to places j on of that in q")
+    @Sentence(of = "Promise 4",
+        says = "n elements of the ROW in SHELF p from place i on come to places j on of that in q")
     static void promise04FromEndToEnd() {
         OneTwoOneTwo x = twoRows();
         due(x.copy(0, 1, 1, 0, 4), 4);
@@ -353,8 +354,8 @@ public final class BoundaryShelvesTest extends Boundary {
 
     @Sentence(of = "Promise 8", says = "SLIP, LATE 1 if somebody stands at its a (and it isn't 0), else 0")
     static void promise08SlipSaysWhetherSomebodyStandsThere() {
-        int[][] of = {{0, 0, 0}, {0, 1, 0}, {1, 0, 0}, {1, 1, 0}, {2, 0, 0}, {2, 1, 1}, {3, 2, 1}, {3, 3, 0}, {13, 13, 0},
-            {14, 13, 1}, {14, 1, 1}, {14, 0, 0}};
+        int[][] of = {{0, 0, 0}, {0, 1, 0}, {1, 0, 0}, {1, 1, 0}, {2, 0, 0}, {2, 1, 1}, {3, 2, 1}, {3, 3, 0},
+            {13, 13, 0}, {14, 13, 1}, {14, 1, 1}, {14, 0, 0}};
         for (int[] o : of) {
             due(shown(o[0], 3, 2, o[1]).says(0, 3), o[2]);
             due(shown(o[0], 5, 2, o[1]).says(0, 3), o[2]);
@@ -389,8 +390,8 @@ public final class BoundaryShelvesTest extends Boundary {
             int as = kind;
             refused(OTHER, Boundary::some, x -> x.says(0, as));
         }
-        int[][] no = {{0, 1}, {0, 2}, {0, 3}, {0, 4}, {0, 5}, {1, 2}, {1, 3}, {1, 4}, {1, 5}, {2, 1}, {2, 3}, {2, 4}, {2, 5},
-            {3, 1}, {3, 2}, {3, 4}, {3, 5}, {4, 2}, {4, 3}, {4, 5}, {5, 1}, {5, 2}, {5, 4}};
+        int[][] no = {{0, 1}, {0, 2}, {0, 3}, {0, 4}, {0, 5}, {1, 2}, {1, 3}, {1, 4}, {1, 5}, {2, 1}, {2, 3},
+            {2, 4}, {2, 5}, {3, 1}, {3, 2}, {3, 4}, {3, 5}, {4, 2}, {4, 3}, {4, 5}, {5, 1}, {5, 2}, {5, 4}};
         for (int[] n : no) {
             refused(OTHER, x(3, n[0], 2, 1), x -> x.says(0, n[1]));
         }

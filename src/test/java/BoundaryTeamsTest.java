@@ -169,7 +169,8 @@ public final class BoundaryTeamsTest extends Boundary {
 
     // ---- 26
 
-    @Sentence(of = "Promise 26", says = "The WISH of the greatest WORTH that isn't MET by a COUNT, of several the first; NONE.")
+    @Sentence(of = "Promise 26",
+        says = "The WISH of the greatest WORTH that isn't MET by a COUNT, of several the first; NONE.")
     static void promise26TheFirstOfTheGreatest() {
         OneTwoOneTwo x = withCount(3, 0, 2, 0);
         due(x.unmet(0), NONE);
@@ -186,6 +187,8 @@ public final class BoundaryTeamsTest extends Boundary {
             x.wish(1, 0, true, i == 19 ? 99 : 5);
         }
         due(x.unmet(0), 19);
+        due(some().unmet(0), 2);
+        due(some().unmet(1), 0);
     }
 
     @Sentence(of = "Promise 26", says = "BAD. (NONE isn't refused.)")
@@ -207,7 +210,8 @@ public final class BoundaryTeamsTest extends Boundary {
         return x;
     }
 
-    @Sentence(of = "Promise 27", says = "CHILDREN (bits, itself too) who hang together with one by WISHES to be TOGETHER, one after the other.")
+    @Sentence(of = "Promise 27", says = "CHILDREN (bits, itself too) who hang together with one by WISHES to "
+        + "be TOGETHER, one after the other.")
     static void promise27AloneAndAll() {
         due(children(1, 0).friendsOf(0), 1);
         due(children(14, 0).friendsOf(13), 1 << 13);
@@ -216,6 +220,11 @@ public final class BoundaryTeamsTest extends Boundary {
         due(some().friendsOf(1), 3);
         due(some().friendsOf(2), 4);
         due(some().friendsOf(4), 24);
+        OneTwoOneTwo full = chained();
+        for (int i = 13; i < 20; i++) {
+            full.wish(0, 13, true, 1);
+        }
+        due(full.friendsOf(7), (1 << 14) - 1);
     }
 
     @Sentence(of = "Promise 27", says = "BAD.")
@@ -267,7 +276,8 @@ public final class BoundaryTeamsTest extends Boundary {
         return x;
     }
 
-    @Sentence(of = "Promise 30", says = "The fewest changes of two PLACES (0 to 2, whatever the STEP) behind which VALUE by a COUNT is v (0 to 9999) at least")
+    @Sentence(of = "Promise 30", says = "The fewest changes of two PLACES (0 to 2, whatever the STEP) behind "
+        + "which VALUE by a COUNT is v (0 to 9999) at least")
     static void promise30NoneToTwo() {
         answers(0, BoundaryTeamsTest::roundOfFour, x -> x.changes(0, 0));
         answers(1, BoundaryTeamsTest::roundOfFour, x -> x.changes(0, 1));
@@ -276,6 +286,13 @@ public final class BoundaryTeamsTest extends Boundary {
         answers(2, BoundaryTeamsTest::roundOfFour, x -> x.changes(0, 10));
         answers(0, BoundaryTeamsTest::nobodyCounted, x -> x.changes(0, 0));
         answers(0, Boundary::some, x -> x.changes(0, 80));
+        for (int p = 0; p < 5; p++) {
+            for (int q = p + 1; q < 5; q++) {
+                OneTwoOneTwo x = withCount(5, 0, 4, 0);
+                x.wish(p, q, true, 5);
+                due(x.changes(0, 5), (p == 0 ? 0 : 1) + (q == 4 ? 0 : 1));
+            }
+        }
         answers(2, Boundary::some, x -> x.changes(0, 81));
         answers(2, Boundary::some, x -> x.changes(0, 100));
     }
@@ -288,6 +305,11 @@ public final class BoundaryTeamsTest extends Boundary {
         answers(NONE, BoundaryTeamsTest::roundOfFour, x -> x.changes(0, 9999));
         answers(NONE, BoundaryTeamsTest::nobodyCounted, x -> x.changes(0, 1));
         answers(NONE, BoundaryTeamsTest::mostlyEmpty, x -> x.changes(0, 1));
+        OneTwoOneTwo full = withCount(14, 0, 2, 0);
+        for (int i = 0; i < 20; i++) {
+            full.wish(i % 14, (i + 1) % 14, true, 99);
+        }
+        due(full.changes(0, 1980), NONE);
     }
 
     @Sentence(of = "Promise 30", says = "BAD. (NONE isn't refused.)")
@@ -304,7 +326,8 @@ public final class BoundaryTeamsTest extends Boundary {
 
     // ---- 31
 
-    @Sentence(of = "Promise 31", says = "The PLACE to which a CHILD, alone, is MOVED so that VALUES by all COUNTS together are greatest, of several the least.")
+    @Sentence(of = "Promise 31", says = "The PLACE to which a CHILD, alone, is MOVED so that VALUES by all "
+        + "COUNTS together are greatest, of several the least.")
     static void promise31TheLeastOfTheGreatest() {
         answers(0, () -> children(14, 0), x -> x.place(13));
         answers(0, BoundaryTeamsTest::mostlyEmpty, x -> x.place(1));
@@ -324,6 +347,10 @@ public final class BoundaryTeamsTest extends Boundary {
         both.wish(2, 1, true, 2);
         due(both.place(2), 0);
         both.count(5, 3, 0);
+        due(both.place(2), 3);
+        for (int c = 2; c < 6; c++) {
+            both.count(0, 2, 0);
+        }
         due(both.place(2), 3);
     }
 

@@ -177,7 +177,8 @@ public final class BoundaryTermsTest extends Boundary {
         due(x.best(2), 0);
     }
 
-    @Sentence(of = "Terms", says = "of all two CHILDREN (the lesser first) whose PLACES are no farther apart than STEP of each")
+    @Sentence(of = "Terms",
+        says = "of all two CHILDREN (the lesser first) whose PLACES are no farther apart than STEP of each")
     static void changeIsNoFartherThanStepOfEach() {
         int[][] of = {{2, 2, 204}, {9, 2, 204}, {2, 9, 204}, {1, 2, NONE}, {2, 1, NONE}, {9, 1, NONE}, {1, 9, NONE}};
         for (int[] step : of) {
@@ -188,7 +189,8 @@ public final class BoundaryTermsTest extends Boundary {
         }
     }
 
-    @Sentence(of = "Terms", says = "by whose change VALUE is greatest, of several the first (100 times the lesser and the other)")
+    @Sentence(of = "Terms",
+        says = "by whose change VALUE is greatest, of several the first (100 times the lesser and the other)")
     static void changeIsTheFirstOfTheGreatest() {
         OneTwoOneTwo x = children(4, 9);
         x.count(0, 2, 0);
@@ -255,8 +257,35 @@ public final class BoundaryTermsTest extends Boundary {
             x.wish(i, i + 1, true, 10 + i);
         }
         due(x.most(0), 16 + 14 + 12);
+        due(x.most(0), 16 + 14 + 12);
         x.child(1, 0);
         due(x.most(0), STUCK);
+        for (int n = 2; n <= 5; n++) {
+            mostIsOfAnyRow(n);
+        }
+    }
+
+    /** Asks for VALUE in all 120 ROWS of five children, with 20 WISHES, and then for MOST. */
+    private static void mostIsOfAnyRow(int n) {
+        OneTwoOneTwo x = children(5, 9);
+        x.count(0, n, 0);
+        for (int i = 0; i < 20; i++) {
+            x.wish(i % 5, (i + 1 + i / 5) % 5, i % 3 != 0, 1 + 37 * i % 99);
+        }
+        int[] times = new int[5];
+        int greatest = x.value(0);
+        for (int k = 0; k < 5;) {
+            if (times[k] < k) {
+                x.swap(x.at(k % 2 == 0 ? 0 : times[k]), x.at(k));
+                greatest = Math.max(greatest, x.value(0));
+                times[k]++;
+                k = 0;
+            } else {
+                times[k] = 0;
+                k++;
+            }
+        }
+        due(x.most(0), greatest);
     }
 
     @Sentence(of = "Terms", says = "ALWAYS of a CHILD: those (bits) who are in its TEAM by all COUNTS")
@@ -282,7 +311,8 @@ public final class BoundaryTermsTest extends Boundary {
         }
     }
 
-    @Sentence(of = "Terms", says = "the PLACE to which the second one, alone, is MOVED so that OFTEN is greatest, of several the least.")
+    @Sentence(of = "Terms",
+        says = "the PLACE to which the second one, alone, is MOVED so that OFTEN is greatest, of several the least.")
     static void safeIsTheLeastOfSeveral() {
         OneTwoOneTwo x = children(6, 0);
         due(x.safe(0, 5), 0);
@@ -355,7 +385,8 @@ public final class BoundaryTermsTest extends Boundary {
         due(x.fits(0), 0);
     }
 
-    @Sentence(of = "Terms", says = "ONE MOVED by a COUNT: the first two (the lesser first) by whose change of PLACES it would be so; NONE.")
+    @Sentence(of = "Terms", says = "ONE MOVED by a COUNT: the first two (the lesser first) by whose "
+        + "change of PLACES it would be so; NONE.")
     static void oneMovedIsTheFirstTwo() {
         OneTwoOneTwo x = withCount(4, 0, 2, 0);
         x.row(0, 0, 4);
@@ -376,7 +407,8 @@ public final class BoundaryTermsTest extends Boundary {
         due(one.moved(0, 0), NONE);
     }
 
-    @Sentence(of = "Terms", says = "MISCOUNTED: the least number of CHILDREN who are in another TEAM than by the COUNT, over all COUNTS.")
+    @Sentence(of = "Terms",
+        says = "MISCOUNTED: the least number of CHILDREN who are in another TEAM than by the COUNT, over all COUNTS.")
     static void miscountedIsTheLeastOfAllCounts() {
         OneTwoOneTwo x = withCount(4, 0, 2, 0);
         x.row(0, 0, 4);
@@ -450,8 +482,8 @@ public final class BoundaryTermsTest extends Boundary {
 
     // ---- in truth
 
-    @Sentence(of = "Terms", says = "A TERM by draws, n times: two CHILDREN, a DRAW below how many there are each (the same: nothing): "
-        + "they change PLACES, whatever their STEP")
+    @Sentence(of = "Terms", says = "A TERM by draws, n times: two CHILDREN, a DRAW below how many there are each "
+        + "(the same: nothing): they change PLACES, whatever their STEP")
     static void aTermChangesWhateverTheStep() {
         int moved = 0;
         for (int seed = 0; seed < 40; seed++) {
@@ -637,9 +669,9 @@ public final class BoundaryTermsTest extends Boundary {
     static void aRefusalChangesNothing() {
         List<ToLongFunction<OneTwoOneTwo>> bad = List.of(
             x -> x.row(0, 5, 1), x -> x.set(0, 6, 1), x -> x.copy(0, 0, 0, 1, 6), x -> x.show(0, 3), x -> x.says(1, 6),
-            x -> x.child(0, 0), x -> x.count(0, 1, 0), x -> x.wish(0, 0, true, 1), x -> x.feed(256), x -> x.childOf(0, 4),
-            x -> x.countOf(0, 3), x -> x.wishOf(0, 4), x -> x.at(5), x -> x.team(0, 5), x -> x.members(0, 2),
-            x -> x.strength(0, 2), x -> x.heaviest(3), x -> x.turned(3), x -> x.unlike(0, 3), x -> x.unmet(3),
+            x -> x.child(0, 0), x -> x.count(0, 1, 0), x -> x.wish(0, 0, true, 1), x -> x.feed(256),
+            x -> x.childOf(0, 4), x -> x.countOf(0, 3), x -> x.wishOf(0, 4), x -> x.at(5),
+            x -> x.team(0, 5), x -> x.members(0, 2), x -> x.strength(0, 2), x -> x.heaviest(3), x -> x.turned(3), x -> x.unlike(0, 3), x -> x.unmet(3),
             x -> x.friendsOf(5), x -> x.changes(0, 10_000), x -> x.place(5), x -> x.value(3), x -> x.met(0, 3),
             x -> x.best(3), x -> x.even(3), x -> x.change(3), x -> x.far(0, 0, 0), x -> x.most(3), x -> x.always(5),
             x -> x.often(0, 0), x -> x.safe(0, 0), x -> x.out(21, 0), x -> x.outAt(21, 0), x -> x.stays(5),

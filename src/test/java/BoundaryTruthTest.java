@@ -303,6 +303,19 @@ public final class BoundaryTruthTest extends Boundary {
         due(x.leaves(), 0);
         due(x.status(0), 0);
         due(x.status(1), 3);
+        OneTwoOneTwo first = children(3, 0);
+        first.wish(0, 2, true, 5);
+        first.wish(2, 1, false, 6);
+        first.wish(1, 0, false, 7);
+        first.wish(0, 1, true, 8);
+        first.leaves();
+        due(first.status(2), 2);
+        int[][] left = {{1, 0, 0, 7}, {0, 1, 1, 8}};
+        for (int i = 0; i < 2; i++) {
+            for (int what = 0; what < 4; what++) {
+                due(first.wishOf(i, what), left[i][what]);
+            }
+        }
         OneTwoOneTwo full = children(14, 0);
         due(full.leaves(), 13);
         due(full.child(1, 0), 13);
@@ -436,6 +449,12 @@ public final class BoundaryTruthTest extends Boundary {
         due(x.says(5, 0), NOTHING);
         x.count(4, 5, 0);
         due(x.holds(5), NONE);
+        x.show(0, 2);
+        x.show(1, 2);
+        due(x.back(), 1);
+        due(x.holds(0), NONE);
+        due(x.holds(1), NONE);
+        due(x.holds(3), 11);
     }
 
     @Sentence(of = "Promise 58", says = "STUCK: nothing was.")
@@ -446,8 +465,8 @@ public final class BoundaryTruthTest extends Boundary {
 
     // ---- 59
 
-    @Sentence(of = "Promise 59", says = "CHILDREN (0), COUNTS (1), WISHES (2), all WORTHS together (3), all STRONG together (4), "
-        + "THE TAPE's size (5), SEED (6), SHELVES that hold something (7)")
+    @Sentence(of = "Promise 59", says = "CHILDREN (0), COUNTS (1), WISHES (2), all WORTHS together (3), "
+        + "all STRONG together (4), THE TAPE's size (5), SEED (6), SHELVES that hold something (7)")
     static void promise59WhatThereIs() {
         int[] atFirst = {0, 0, 0, 0, 0, 0, 1, 0};
         int[] ofSome = {5, 3, 3, 100, 210, 9, 4711, 4};

@@ -173,6 +173,9 @@ public final class BoundaryYardTest extends Boundary {
 
     @Sentence(of = "Terms", says = "WORDS (a .. z)")
     static void wordsAreOfSmallLetters() {
+        for (String word : new String[] {"zhild", "chilz", "czunt", "wizh", "aithout", "wswap", "mov", "a", "z"}) {
+            fault(0, BoundaryYardTest::two, word + " 1 0");
+        }
         fault(0, BoundaryYardTest::two, "childa 1 0");
         fault(0, BoundaryYardTest::two, "childz 1 0");
         fault(5, BoundaryYardTest::two, "child` 1 0");

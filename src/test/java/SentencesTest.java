@@ -12,15 +12,16 @@ import java.util.regex.Pattern;
  * and no words that name a boundary are left without a test. Argument: the project's folder.
  */
 public final class SentencesTest {
-    private static final List<Class<?>> TESTS = List.of(BoundaryYardTest.class, BoundaryTermsTest.class,
+    static final List<Class<?>> TESTS = List.of(BoundaryYardTest.class, BoundaryTermsTest.class,
         BoundaryShelvesTest.class, BoundaryMakingTest.class, BoundaryTeamsTest.class, BoundaryFindingTest.class,
         BoundaryTruthTest.class);
     private static final int PROMISES = 59;
 
     /** Refusals, NONE, limits, the first or least of several, nobody, the same, wrap-arounds. */
-    private static final Pattern EDGE = Pattern.compile("\\b(BAD|OTHER|NOTHING|STUCK|FULL|NONE|modulo|wrapping|empty|nobody|none"
-        + "|nothing|never|at most|at least|at first|\\d+ to \\d+|0 on|of several|one or more|more than|no sign|[Tt]he same"
-        + "|too early|no room|itself too|either way|isn't|can't|lowest|least|greatest|each|also|also empty ones|else)\\b");
+    private static final Pattern EDGE = Pattern.compile("\\b(BAD|OTHER|NOTHING|STUCK|FULL|NONE|modulo|wrapping|empty"
+        + "|nobody|none|nothing|never|at most|at least|at first|\\d+ to \\d+|0 on|of several|one or more|more than"
+        + "|no sign|[Tt]he same|too early|no room|itself too|either way|isn't|can't|lowest|least|greatest|lesser|each"
+        + "|also|else)\\b");
 
     private static int wrong = 0;
 
